@@ -183,63 +183,66 @@ public final class DaysTest {
         Due.due("and of no other", 32, x.told(0, 4));
     }
 
-    private static void promise16Deeds() {
+    /** People who enter each day without wear, so that their regrets change by lot alone. */
+    private static RegretLocks steady(int people, int deeds, int pardons) {
         RegretLocks x = new RegretLocks();
-        x.rule(0, 100);
-        x.rule(1, 0);
-        int[][] regrets = new int[3][3];
-        for (int i = 0; i < 3; i++) {
-            x.one(0, i, 50, 50, 50);
+        x.rule(0, deeds);
+        x.rule(1, pardons);
+        for (int i = 0; i < people; i++) {
+            x.one(0, i, 60, 50 + i, 41);
             x.lock(i, i, 0, 0);
-            java.util.Arrays.fill(regrets[i], 50);
         }
         Due.text(x, "wear 0");
-        Draws draws = new Draws(1);
-        for (int day = 0; day < 90; day++) {
-            x.days(1);
-            draws.rest(100);
-            int who = draws.rest(3);
-            int sort = draws.rest(3);
-            draws.rest(100);
-            regrets[who][sort] = Math.min(99, regrets[who][sort] + 10);
-        }
-        for (int i = 0; i < 3; i++) {
-            for (int sort = 0; sort < 3; sort++) {
-                Due.due("regrets by deeds", regrets[i][sort], x.told(i, 2 + sort));
-            }
-        }
-        Due.due("z", draws.z(), x.count(8));
+        return x;
     }
 
-    private static void promise16Pardons() {
-        RegretLocks x = new RegretLocks();
-        x.rule(0, 0);
-        x.rule(1, 50);
-        int[][] regrets = new int[2][3];
-        for (int i = 0; i < 2; i++) {
-            x.one(0, i, 99, 98, 97);
-            x.lock(i, i, 0, 0);
-            regrets[i] = new int[] {99, 98, 97};
+    private static void byLot(int seed, int people, int deeds, int pardons, int days) {
+        RegretLocks x = steady(people, deeds, pardons);
+        x.seed(seed);
+        int[][] regrets = new int[people][];
+        for (int i = 0; i < people; i++) {
+            regrets[i] = new int[] {60, 50 + i, 41};
         }
-        Due.text(x, "wear 0");
-        Draws draws = new Draws(1);
-        for (int day = 0; day < 9; day++) {
-            x.days(1);
-            draws.rest(100);
-            if (draws.rest(100) < 50) {
-                int who = draws.rest(2);
+        Draws draws = new Draws(seed);
+        for (int day = 0; day < days; day++) {
+            Due.due("all enter", people, x.days(1));
+            if (draws.rest(100) < deeds) {
+                int who = draws.rest(people);
+                int sort = draws.rest(3);
+                regrets[who][sort] = Math.min(99, regrets[who][sort] + 10);
+            }
+            if (draws.rest(100) < pardons) {
+                int who = draws.rest(people);
                 for (int sort = 0; sort < 3; sort++) {
                     regrets[who][sort] /= 2;
                 }
             }
-            for (int i = 0; i < 2; i++) {
+            for (int i = 0; i < people; i++) {
                 for (int sort = 0; sort < 3; sort++) {
-                    Due.due("regrets by pardons", regrets[i][sort], x.told(i, 2 + sort));
+                    Due.due("regrets by lot", regrets[i][sort], x.told(i, 2 + sort));
                 }
             }
+            Due.due("z by lot", draws.z(), x.count(8));
         }
-        Due.due("z", draws.z(), x.count(8));
-        Due.holds("somebody was pardoned", x.town(3) < 2 * (99 + 98 + 97));
+    }
+
+    private static void promise16Deeds() {
+        byLot(1, 3, 100, 0, 40);
+        byLot(2, 8, 30, 0, 30);
+        byLot(3, 1, 50, 0, 12);
+        for (int seed = 0; seed < 300; seed++) {
+            byLot(seed, 2, 1 + seed % 99, 0, 1);
+        }
+    }
+
+    private static void promise16Pardons() {
+        byLot(1, 2, 0, 50, 9);
+        byLot(2, 1, 0, 100, 8);
+        byLot(3, 8, 30, 10, 60);
+        byLot(4, 5, 90, 90, 40);
+        for (int seed = 0; seed < 300; seed++) {
+            byLot(seed, 2, 50, 1 + seed % 99, 1);
+        }
     }
 
     private static void promise16Mending() {

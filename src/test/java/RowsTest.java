@@ -252,6 +252,26 @@ public final class RowsTest {
         x.keep();
         x.back();
         Due.due("the newer image counts", 0, x.town(4));
+        jamBehindTheImage();
+    }
+
+    /** A lock that is new behind a way back is not jammed, whatever had its number. */
+    private static void jamBehindTheImage() {
+        RegretLocks x = new RegretLocks();
+        x.rule(0, 0);
+        x.rule(1, 0);
+        x.one(5, 0, 0, 0, 0);
+        x.keep();
+        x.lock(0, 0, 0, 99);
+        for (int i = 0; i < 50 && x.town(4) == 0; i++) {
+            x.days(1);
+        }
+        Due.due("jammed", 1, x.about(0, 4));
+        x.back();
+        Due.due("no locks", BAD, x.about(0, 4));
+        Due.due("a new lock", 0, x.lock(0, 0, 0, 0));
+        Due.due("is not jammed", 0, x.about(0, 4));
+        Due.due("and opens", 1, x.about(0, 5));
     }
 
     private static void promise48Count() {

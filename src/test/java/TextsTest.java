@@ -9,6 +9,7 @@ public final class TextsTest {
         promise32Nesting();
         promise32Bytes();
         promise32Values();
+        promise32Again();
         promise32Full();
         promise33TextTold();
         promise34Why();
@@ -89,6 +90,16 @@ public final class TextsTest {
         fault("(", 0);
         fault("wear2", 4);
         fault("wearr", 0);
+        fault("xear 1", 0);
+        fault("gee 1", 0);
+        fault("pine 1", 0);
+        fault("wea 1", 0);
+        fault("wearz 1", 0);
+        fault("wear rz", 5);
+        fault("wear zr", 5);
+        fault("wear ra", 5);
+        fault("wear a", 5);
+        fault("wear z", 5);
         fault("fee2 + 2", 3);
         fault("wear 2r", 6);
         fault("wear r2", 6);
@@ -248,10 +259,25 @@ public final class TextsTest {
         value("0-9999*9999*9999*9999", -(9999 * 9999 * 9999 * 9999));
         value("(0-32*8192*8192)/(0-1)", Integer.MIN_VALUE);
         value("0007", 7);
+        value("4+(0|7)", 5);
+        value("4+(0|7&0)*3", 4);
+        value("4*(1+(0|7))", 8);
         value("((((((((e))))))))", 10);
         value("!!!!!!!!e", 1);
         value("1-2*3+4/2-(5-6)", -2);
         value("1<2&2<3|9/0", 1);
+    }
+
+    /** What one reading left open is not open in the next one. */
+    private static void promise32Again() {
+        RegretLocks x = new RegretLocks();
+        for (int i = 0; i < 12; i++) {
+            Due.due("a fault", -112, Due.text(x, "fee !(!(1+!("));
+            Due.due("a fault", -105, Due.text(x, "fee 1)"));
+            Due.due("a text", i, Due.text(x, "fee !!!!!!!!((((((((" + i + ")))))))) + " + i));
+            Due.due("its value", (i == 0 ? 0 : 1) + i, x.fee());
+            Due.due("its numbers", 2, x.textTold(i, 1));
+        }
     }
 
     private static void promise32Full() {
@@ -279,6 +305,8 @@ public final class TextsTest {
         }
         Due.due("no such text", BAD, x.textTold(3, 0));
         Due.due("no such text", BAD, x.textTold(-1, 0));
+        Due.due("no such text", BAD, x.textTold(14, 1));
+        Due.due("no such text", BAD, x.textTold(Integer.MAX_VALUE, Integer.MIN_VALUE));
         Due.due("no such what", BAD, x.textTold(0, 2));
         Due.due("no such what", BAD, x.textTold(0, -1));
     }
@@ -299,5 +327,7 @@ public final class TextsTest {
         Due.due("wear", 3, x.why(0));
         Due.due("no such key", BAD, x.why(3));
         Due.due("no such key", BAD, x.why(-1));
+        Due.due("no such key", BAD, x.why(Integer.MAX_VALUE));
+        Due.due("no such key", BAD, x.why(Integer.MIN_VALUE));
     }
 }
