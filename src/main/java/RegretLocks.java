@@ -433,6 +433,9 @@ public final class RegretLocks {
             return BAD;
         }
         Text one = now.texts[text];
+        if (one == null) {
+            return BAD;
+        }
         return what == 0 ? one.key : one.pieces;
     }
 
