@@ -2,15 +2,21 @@
 final class Due {
     private static int asked = 0;
     private static int wrong = 0;
+    private static String sentence = "";
 
     private Due() {
+    }
+
+    /** The sentence of the document that what is asked from here on belongs to. */
+    static void of(String words) {
+        sentence = words;
     }
 
     static void due(String call, long want, long got) {
         asked++;
         if (got != want) {
             wrong++;
-            System.out.println(call + " answered " + got + ", due is " + want);
+            tell(call + " answered " + got + ", due is " + want);
         }
     }
 
@@ -18,8 +24,12 @@ final class Due {
         asked++;
         if (!truth) {
             wrong++;
-            System.out.println("does not hold: " + what);
+            tell("does not hold: " + what);
         }
+    }
+
+    private static void tell(String fault) {
+        System.out.println(sentence.isEmpty() ? fault : sentence + ": " + fault);
     }
 
     /** Feeds a text to the tape, and cuts off what the last twelve bytes have too many. */
@@ -43,6 +53,11 @@ final class Due {
     static int text(RegretLocks x, String text) {
         feed(x, text);
         return x.text();
+    }
+
+    /** A text that is to be taken. */
+    static void law(RegretLocks x, String text) {
+        due("the text " + text, x.count(5), text(x, text));
     }
 
     static void end(String test) {

@@ -1,8 +1,4 @@
-import java.lang.reflect.Method;
-import java.lang.reflect.Modifier;
 import java.util.ArrayList;
-import java.util.Arrays;
-import java.util.Comparator;
 import java.util.HashMap;
 import java.util.List;
 import java.util.Map;
@@ -13,12 +9,9 @@ public final class ModelTest {
     private static final int RUNS = Integer.getInteger("runs", 1500);
     private static final int CALLS = 440;
     private final Random lot;
-    private final RegretLocks real = new RegretLocks();
-    private final Model model = new Model();
-    private final List<String> log = new ArrayList<>();
-    private static final Map<String, Method> REAL = new HashMap<>();
-    private static final Map<String, Method> THOUGHT = new HashMap<>();
-    private static final List<String> NAMES = new ArrayList<>();
+    private final Pair pair = new Pair();
+    private final Model model = pair.model;
+    private static final List<String> NAMES = Pair.names();
     private static final Map<String, Integer> SOUND = new HashMap<>();
 
     private ModelTest(long seed) {
@@ -26,23 +19,14 @@ public final class ModelTest {
     }
 
     public static void main(String[] args) throws Exception {
-        Method[] all = RegretLocks.class.getDeclaredMethods();
-        Arrays.sort(all, Comparator.comparing(Method::getName));
-        for (Method m : all) {
-            if (Modifier.isPublic(m.getModifiers())) {
-                NAMES.add(m.getName());
-                REAL.put(m.getName(), m);
-                THOUGHT.put(m.getName(), Model.class.getMethod(m.getName(), m.getParameterTypes()));
-            }
-        }
         int wrong = 0;
         for (int run = 0; run < RUNS && wrong < 5; run++) {
             ModelTest test = new ModelTest(run);
-            if (!test.run()) {
+            test.run();
+            if (!test.pair.isRight()) {
                 wrong++;
-                System.out.println("run " + run + ": " + test.log.size() + " calls, the last of them:");
-                int from = Math.max(0, test.log.size() - 40);
-                test.log.subList(from, test.log.size()).forEach(System.out::println);
+                System.out.print("run " + run + ": ");
+                test.pair.tellLog();
             }
         }
         for (String name : NAMES) {
@@ -55,50 +39,43 @@ public final class ModelTest {
         System.exit(wrong == 0 ? 0 : 1);
     }
 
-    private boolean run() throws Exception {
-        boolean right = start();
+    private void run() throws Exception {
+        start();
         int likely = lot.nextInt(5);
-        while (right && log.size() < CALLS) {
-            switch (lot.nextInt(12)) {
-                case 0: right = tellText(); break;
-                case 1: right = likely != 0 || tellRows(); break;
-                default: right = call(NAMES.get(lot.nextInt(NAMES.size())), null); break;
+        while (pair.isRight() && pair.log.size() < CALLS) {
+            int die = lot.nextInt(12);
+            if (die == 0) {
+                tellText();
+            } else if (die == 1 && likely == 0) {
+                tellRows();
+            } else {
+                String name = NAMES.get(lot.nextInt(NAMES.size()));
+                call(name, arguments(name, Pair.parameters(name)));
             }
         }
-        return right;
     }
 
     /** Most runs begin with a town, so that there is something to ask for. */
-    private boolean start() throws Exception {
+    private void start() throws Exception {
         if (lot.nextInt(8) == 0) {
-            return true;
+            return;
         }
-        boolean right = call("seed", new int[] {lot.nextInt()});
-        right &= call("deal", new int[] {1 + lot.nextInt(8)});
+        call("seed", lot.nextInt());
+        call("deal", 1 + lot.nextInt(8));
         for (int i = lot.nextInt(11); i > 0; i--) {
             int top = lot.nextBoolean() ? 40 : 99;
             int rooms = lot.nextBoolean() ? 8 : 3;
-            right &= call("lock", new int[] {lot.nextInt(rooms), lot.nextInt(rooms), lot.nextInt(3), lot.nextInt(top)});
+            call("lock", lot.nextInt(rooms), lot.nextInt(rooms), lot.nextInt(3), lot.nextInt(top));
         }
         for (int i = lot.nextInt(5) == 0 ? 100 : 0; i > 0; i--) {
-            right &= call("days", new int[] {i == 1 ? 60 + lot.nextInt(40) : 100});
+            call("days", i == 1 ? 60 + lot.nextInt(40) : 100);
         }
-        return right;
     }
 
-    private boolean call(String name, int[] given) throws Exception {
-        Object[] args = new Object[REAL.get(name).getParameterCount()];
-        int[] values = given == null ? arguments(name, args.length) : given;
-        for (int i = 0; i < args.length; i++) {
-            args[i] = values[i];
-        }
-        int want = (Integer) THOUGHT.get(name).invoke(model, args);
-        int got = (Integer) REAL.get(name).invoke(real, args);
-        log.add("  " + name + Arrays.toString(args) + " answered " + got + (got == want ? "" : ", due is " + want));
-        if (want > -1000000000) {
+    private void call(String name, int... values) throws Exception {
+        if (pair.call(name, values) > -1000000000) {
             SOUND.merge(name, 1, Integer::sum);
         }
-        return got == want;
     }
 
     /** Mostly within what the call takes, at its edges often enough, and now and then far off. */
@@ -194,29 +171,16 @@ public final class ModelTest {
         return args;
     }
 
-    private boolean tellText() throws Exception {
-        if (!call("trim", new int[] {0})) {
-            return false;
-        }
-        String text = new Writer(lot).text();
-        for (int i = 0; i < text.length(); i += 12) {
-            int[] three = new int[3];
-            for (int k = 0; k < 12; k++) {
-                three[k / 4] = three[k / 4] << 8 | (i + k < text.length() ? text.charAt(i + k) : ' ');
-            }
-            if (!call("feed", three)) {
-                return false;
-            }
-        }
-        return call("trim", new int[] {text.length()}) && call("text", new int[0]);
+    private void tellText() throws Exception {
+        call("trim", 0);
+        pair.feed(new Writer(lot).text());
+        call("text");
     }
 
-    private boolean tellRows() throws Exception {
+    private void tellRows() throws Exception {
         int n = 1 + lot.nextInt(lot.nextInt(4) == 0 ? 30 : 4);
         if (model.image == null || lot.nextInt(3) == 0) {
-            if (!call("keep", new int[0])) {
-                return false;
-            }
+            call("keep");
         }
         List<Integer> rows = new ArrayList<>(Model.rows(model.image, n));
         int bend = lot.nextInt(6);
@@ -229,11 +193,9 @@ public final class ModelTest {
             rows.set(at, rows.get(at) + 1);
         }
         for (int v : rows) {
-            if (!call("tell", new int[] {v})) {
-                return false;
-            }
+            call("tell", v);
         }
-        return call("check", new int[] {n});
+        call("check", n);
     }
 
     /** Writes texts by lot, most of them sound, some bent in one place. */
