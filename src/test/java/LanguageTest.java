@@ -1,7 +1,9 @@
 import java.nio.file.Files;
 import java.nio.file.Path;
 import java.util.List;
+import java.util.Map;
 import java.util.Set;
+import java.util.TreeMap;
 import java.util.TreeSet;
 import java.util.regex.Matcher;
 import java.util.regex.Pattern;
@@ -35,6 +37,7 @@ public final class LanguageTest {
         Due.holds("the library's calls " + used, CALLS.containsAll(used));
         staticFields(words);
         methods(lines);
+        depth(words);
         Due.end("LanguageTest");
     }
 
@@ -66,5 +69,58 @@ public final class LanguageTest {
         }
         Due.holds("methods were found: " + found, found > 90);
         Due.holds("sixty lines at most: " + longest, longest <= 60);
+    }
+
+    /** Who calls whom, told by names; a call that another object is asked goes to all classes but the own that have it. */
+    private static void depth(String words) {
+        Map<String, String> bodies = new TreeMap<>();
+        Matcher heads = Pattern.compile("(?m)^( +)(?:(?:public|private|static) )*[\\w\\[\\]]+ (\\w+)\\([^;{}()]*\\) \\{$").matcher(words);
+        while (heads.find()) {
+            int end = words.indexOf("\n" + heads.group(1) + "}", heads.end());
+            bodies.put(ownerAt(words, heads.start()) + "." + heads.group(2), words.substring(heads.end(), end));
+        }
+        Map<String, Integer> known = new TreeMap<>();
+        int deepest = 0;
+        for (String method : bodies.keySet()) {
+            deepest = Math.max(deepest, depthOf(method, bodies, known, 0));
+        }
+        Due.holds("bodies were found: " + bodies.size(), bodies.size() > 90);
+        Due.holds("from freed to join: " + known.get("RegretLocks.freed"), known.get("RegretLocks.freed") == 8);
+        Due.holds("eight calls deep at most: " + deepest, deepest <= 8);
+    }
+
+    private static String ownerAt(String words, int place) {
+        Matcher classes = Pattern.compile("\\bclass (\\w+)").matcher(words.substring(0, place));
+        String owner = "";
+        while (classes.find()) {
+            owner = classes.group(1);
+        }
+        return owner;
+    }
+
+    private static int depthOf(String method, Map<String, String> bodies, Map<String, Integer> known, int open) {
+        if (open > 100) {
+            Due.holds("no recursion in " + method, false);
+            return 0;
+        }
+        if (!known.containsKey(method)) {
+            int below = 0;
+            Matcher calls = Pattern.compile("(\\.?)\\b(\\w+)\\(").matcher(bodies.get(method));
+            while (calls.find()) {
+                for (String other : bodies.keySet()) {
+                    boolean own = ownerOf(other).equals(ownerOf(method));
+                    boolean fits = calls.group(1).isEmpty() ? own || ownerOf(other).equals("RegretLocks") : !own;
+                    if (fits && other.endsWith("." + calls.group(2))) {
+                        below = Math.max(below, depthOf(other, bodies, known, open + 1));
+                    }
+                }
+            }
+            known.put(method, 1 + below);
+        }
+        return known.get(method);
+    }
+
+    private static String ownerOf(String method) {
+        return method.substring(0, method.indexOf('.'));
     }
 }
